@@ -101,6 +101,7 @@ public final class AntBand {
     }
 
     public int wall() {
+        // read aside, so that a FAULT leaves the WALL that stands
         Band told = foretold.then;
         boolean good = tape.readWall(told);
         tape.length = 0;

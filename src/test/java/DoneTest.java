@@ -98,6 +98,12 @@ public final class DoneTest {
         AntBand z = Check.told("w50;g0;b1,2,1;b1,3,1;");
         z.minutes(1);
         Check.due("10: just 0 is there", z.count(5), 1);
+        AntBand near = Check.told("w3;g3;b1,50,1;");
+        near.minutes(2);
+        Check.due("10: a millionth from the nail", near.ant(0, 2), 1);
+        Check.due("10: it did not ARRIVE", near.ant(0, 3), 0);
+        near.minutes(1);
+        Check.due("10: it ARRIVED", near.ant(0, 3), 1);
         AntBand v = Check.told("w50;g0;p1,98,1;p1,97,1;");
         v.minutes(1);
         Check.due("10: just 1000000 is there", v.count(5), 1);

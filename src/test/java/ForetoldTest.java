@@ -187,6 +187,9 @@ public final class ForetoldTest {
         Check.due("24: it ARRIVED", x.order(2, 0, -1), Check.STATE);
         Check.due("24: it ARRIVED, k beyond", x.order(2, 0, 9), Check.STATE);
         Check.due("24: BAD ahead of STATE", x.order(2, 0, -2), Check.BAD);
+        AntBand far = Check.told("w99;g0;t1,0,2;");
+        Check.due("24: just 200", far.order(0, 0, -1), 200);
+        Check.due("24: just 200", far.order(0, 1, -1), 200);
         AntBand y = Check.told("w10;g0;g9;p5,0,1;");
         Check.due("24: soonest of two", y.order(0, 0, -1) * 100 + y.order(0, 0, 0) * 10 + y.order(0, 0, 1), 201);
         Check.due("24: latest of two", y.order(0, 1, -1) * 100 + y.order(0, 1, 0) * 10 + y.order(0, 1, 1), 310);
@@ -223,6 +226,12 @@ public final class ForetoldTest {
         Check.due("25: not within 200", y.half(0), Check.NONE);
         AntBand z = Check.told("w1;g0;t1,0,9;");
         Check.due("25: by one leap", z.half(0), 2);
+        AntBand v = Check.told("w50;g75;t1,0,2;");
+        v.minutes(2);
+        v.pull(0, 0);
+        v.place(0, 0);
+        // 5000 every other MINUTE on 200 inches, from the next one on
+        Check.due("25: just 200", v.half(0), 200);
     }
 
     private static void rests() {

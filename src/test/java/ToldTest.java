@@ -58,6 +58,10 @@ public final class ToldTest {
         for (int ant = 0; ant < 5; ant++) {
             Check.due("7: kind", x.kind(ant), ant + 1);
         }
+        Check.read(x, "w1;g1;p20,0,1;b20,0,1;");
+        Check.due("18: both ARRIVED", x.band(1, 1), 3);
+        Check.due("7: read behind that", Check.read(x, "w9;g1;p1,0,1;t1,0,1;"), 2);
+        Check.due("7: none ARRIVED", x.count(5), 0);
         Check.due("7: as many as there is room for",
                 Check.read(x, "w99;g1;g2;g3;g4;g5;p1,0,1;p1,0,1;p1,0,1;p1,0,1;p1,0,1;p1,0,1;"), 6);
     }
@@ -83,6 +87,9 @@ public final class ToldTest {
         fault("w10;w10;g2;p1,0,2;", 4, 1);
         fault("w10;g2;w10;p1,0,2;", 7, 1);
         fault("w10;g-1;p1,0,2;", 5, 1);
+        fault("w10;g;p1,0,2;", 5, 1);
+        fault("w1;g1g2;p1,0,1;", 5, 1);
+        fault("w1;g1p1,0,1;", 5, 1);
         fault("w10;g2;p1;0,2;", 9, 1);
         fault("w10;g2;p1,,2;", 10, 1);
         fault("w10;g2;p1,0;2;", 11, 1);
