@@ -1,12 +1,31 @@
+import java.util.ArrayList;
+import java.util.List;
 import java.util.Random;
+import java.util.function.Consumer;
 
-/** Many walls and acts: what is done and foretold is as the Model has it (promises 9 to 32). */
+/**
+ * Many walls and acts: what is done and foretold is as the Model has it (promises 9 to 32). An object is used for 512
+ * calls at most, so each ANT is asked of on an object of its own, told and acted upon alike.
+ */
 public final class ModelTest {
     private static final Random DRAW = new Random(20261118);
 
+    private final String text;
+    private final String name;
+    private final List<Consumer<AntBand>> acts = new ArrayList<>();
+
+    private ModelTest(int run) {
+        text = wall();
+        name = "run " + run + " " + text + " ";
+    }
+
     public static void main(String[] args) {
         for (int run = 0; run < 400; run++) {
-            run(run);
+            ModelTest test = new ModelTest(run);
+            for (int turn = 0; turn < 3; turn++) {
+                test.drawActs();
+                test.foretold();
+            }
         }
         Check.end("ModelTest");
     }
@@ -28,40 +47,43 @@ public final class ModelTest {
         return text.toString();
     }
 
-    private static void run(int run) {
-        String text = wall();
-        String name = "run " + run + " " + text + " ";
+    private AntBand made() {
         AntBand x = Check.told(text);
-        for (int turn = 0; turn < 3; turn++) {
-            acts(name, x);
-            foretold(name, x);
+        for (Consumer<AntBand> act : acts) {
+            act.accept(x);
         }
+        return x;
     }
 
-    private static void acts(String name, AntBand x) {
+    private void drawActs() {
         for (int k = draw(0, 4); k > 0; k--) {
+            AntBand x = made();
             int ant = draw(0, x.count(2) - 1);
+            int pull = draw(0, x.count(1) - 1);
+            int hundredth = draw(0, 99);
             switch (draw(0, 5)) {
-                case 0 -> x.pull(draw(0, x.count(1) - 1), draw(0, 99));
-                case 1 -> x.letGo();
-                case 2 -> x.place(ant, draw(0, 99));
-                case 3 -> x.step(ant, draw(1, 20));
-                default -> someMinutes(name, x, draw(1, draw(1, 24)));
+                case 0 -> acts.add(y -> y.pull(pull, hundredth));
+                case 1 -> acts.add(y -> y.letGo());
+                case 2 -> acts.add(y -> y.place(ant, hundredth));
+                case 3 -> acts.add(y -> y.step(ant, hundredth % 20 + 1));
+                default -> someMinutes(x, draw(1, draw(1, 24)));
             }
         }
     }
 
-    private static void someMinutes(String name, AntBand x, int n) {
+    private void someMinutes(AntBand x, int n) {
         Model before = new Model(x);
         int kept = Math.min(24, x.count(6) + n);
         Model.Moment then = before.now.later(n);
         Check.due(name + "minutes", x.minutes(n), then.length());
         Check.due(name + "ACTS", x.count(6), kept);
         asDue(name + "minutes", x, then);
+        acts.add(y -> y.minutes(n));
         if (draw(0, 2) == 0) {
             int back = draw(1, n);
             for (int k = 0; k < back; k++) {
                 x.undo();
+                acts.add(y -> y.undo());
             }
             asDue(name + "undone", x, before.now.later(n - back));
         }
@@ -77,7 +99,8 @@ public final class ModelTest {
         }
     }
 
-    private static void foretold(String name, AntBand x) {
+    private void foretold() {
+        AntBand x = made();
         Model m = new Model(x);
         int n = draw(0, 99);
         Check.due(name + "band 0", x.band(n, 0), m.now.later(n).length());
@@ -86,9 +109,10 @@ public final class ModelTest {
         int seed = draw(1, 999999);
         Check.due(name + "drawn 0", x.drawn(n, seed, 0), m.drawn(n, seed)[0]);
         Check.due(name + "drawn 1", x.drawn(n, seed, 1), m.drawn(n, seed)[1]);
-        for (int ant = 0; ant < x.count(2); ant++) {
-            ofOne(name + "ant " + ant + " ", x, m, ant);
-            ofOneThatWalks(name + "ant " + ant + " ", x, m, ant);
+        for (int ant = 0; ant < m.now.walkers().length; ant++) {
+            AntBand y = made();
+            ofOne(name + "ant " + ant + " ", y, m, ant);
+            ofOneThatWalks(name + "ant " + ant + " ", y, m, ant);
         }
     }
 
@@ -97,7 +121,7 @@ public final class ModelTest {
         Check.due(name + "ahead", x.ahead(ant, n), m.now.later(n).part(ant));
         Check.due(name + "arrives", x.arrives(ant), m.arrives(m.now, ant, 200));
         Check.due(name + "passed", x.passed(ant, n), m.passed(ant, n));
-        for (int other = 0; other < x.count(2); other++) {
+        for (int other = 0; other < m.now.walkers().length; other++) {
             Check.due(name + "meet", x.meet(ant, other), other == ant ? Check.BAD : m.meet(ant, other));
         }
         int few = draw(0, 8);
@@ -126,9 +150,10 @@ public final class ModelTest {
         Check.due(name + "pullFor", x.pullFor(ant, n), there ? Check.STATE : m.pullFor(ant, n));
         Check.due(name + "half", x.half(ant), there ? Check.STATE : m.half(ant));
         Check.due(name + "rest", x.rest(ant, n), there ? Check.STATE : m.rest(ant, n));
+        int pulls = m.now.pulls().length;
         for (int late = 0; late < 2; late++) {
-            int[] order = there ? new int[x.count(1) + 1] : m.order(ant, late == 1);
-            for (int k = -1; k < x.count(1); k++) {
+            int[] order = there ? new int[pulls + 1] : m.order(ant, late == 1);
+            for (int k = -1; k < pulls; k++) {
                 Check.due(name + "order", x.order(ant, late, k), there ? Check.STATE : order[k + 1]);
             }
         }
