@@ -236,6 +236,28 @@ public final class ForetoldEdgesTest {
         tired.minutes(1);
         // it goes at MINUTES 1, 3, 5 and 7: 500000, 263157, 178571, 135135, by both orders
         orderIs("but for PULLS alone", tired, 0, 7, 0, 1);
+        // 9 first: 500000, 263157, 263157; 0 first: 500000, 500000
+        orderIs("soonest by one MINUTE less", Check.told("w10;g9;g0;p5,0,1;"), 0, 2, 1, 0);
+        orderIs("latest by one MINUTE more", Check.told("w10;g0;g9;p5,0,1;"), 1, 3, 1, 0);
+        amongMany();
+    }
+
+    /** Several of many orders are best, and the first of them by numbers is none of the ends. */
+    private static void amongMany() {
+        many("w59;g40;g17;g9;g57;g69;q4,57,2;", 3, "12034", 6, "34012");
+        many("w30;g66;g96;g65;g3;g39;b5,30,1;", 2, "30124", 8, "10243");
+        many("w50;g41;g51;g85;g32;g25;u9,56,2;", 8, "34012", 16, "20134");
+        many("w89;g89;g66;g64;g78;g96;t15,54,2;", 130, "21304", 172, "40312");
+        many("w28;g54;g4;g22;g68;q7,30,2;", 2, "1023", 5, "3012");
+        many("w34;g64;g0;g77;g48;g3;b4,33,4;", 3, "14023", 19, "20314");
+        many("w87;g55;g2;g48;g81;g52;b8,34,2;", 7, "10234", 12, "30241");
+        many("w67;g51;g24;g77;g21;g12;b3,20,1;", 10, "34102", 21, "20134");
+    }
+
+    private static void many(String text, int soonest, String first, int latest, String last) {
+        AntBand x = Check.told(text);
+        orderIs("soonest of " + text, x, 0, soonest, first.chars().map(figure -> figure - '0').toArray());
+        orderIs("latest of " + text, x, 1, latest, last.chars().map(figure -> figure - '0').toArray());
     }
 
     private static void halfWithin200() {
@@ -323,6 +345,10 @@ public final class ForetoldEdgesTest {
         Check.due("27: behind four", while1.passed(0, 4), 2);
         Check.due("18: at the end both are there", while1.band(99, 1), 3);
         Check.due("27: behind one of these MINUTES at least", while1.passed(0, 99), 2);
+        AntBand first = Check.told("w10;g0;p2,0,1;p1,5,1;p1,4,1;");
+        Check.due("27: the first passes the second", first.passed(1, 1), 1);
+        Check.due("27: the first passes the last", first.passed(2, 1), 1);
+        Check.due("27: none passes the first", first.passed(0, 99), 0);
         AntBand all = Check.told("w10;g0;b1,50,1;p1,1,1;p1,2,1;p1,3,1;p1,4,1;p1,50,1;");
         Check.due("27: all five", all.passed(0, 99), 62);
     }

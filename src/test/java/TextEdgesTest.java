@@ -165,6 +165,22 @@ public final class TextEdgesTest {
                 fault("the end: how many bytes there are", text, end, 1);
             }
         }
+        whatWasReadIsGone();
+    }
+
+    /** Bytes of an earlier text do not stand behind the end of a later one. */
+    private static void whatWasReadIsGone() {
+        for (int end = 0; end < GOOD.length(); end++) {
+            AntBand x = Check.told(GOOD);
+            String text = GOOD.substring(0, end);
+            Reader model = Reader.of(text);
+            Check.due("7: behind a longer text: " + text, Check.read(x, text), model.answer());
+            Check.due("8: behind a longer text: " + text, x.fault(), model.fault);
+        }
+        AntBand figures = Check.told("w11;g1;p1,0,1;");
+        Check.due("7: a NUMBER ends with the text", Check.read(figures, "w1"), -1000102);
+        AntBand nothing = Check.told(GOOD);
+        Check.due("7: an empty tape is no WALL", nothing.wall(), -1000100);
     }
 
     private static void ofOneTokenTheLeast() {
