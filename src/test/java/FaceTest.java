@@ -1,4 +1,5 @@
 import java.io.IOException;
+import java.lang.reflect.Constructor;
 import java.lang.reflect.Field;
 import java.lang.reflect.Method;
 import java.lang.reflect.Modifier;
@@ -6,6 +7,7 @@ import java.nio.file.Files;
 import java.nio.file.Path;
 import java.util.Arrays;
 import java.util.HashSet;
+import java.util.Map;
 import java.util.Set;
 import java.util.regex.Matcher;
 import java.util.regex.Pattern;
@@ -23,17 +25,32 @@ public final class FaceTest {
         "int restore(int)", "int kind(int)", "int as(int, int)", "int ask(int, int)", "int trace(int)",
         "int count(int)", "int status()",
     };
+    private static final Map<String, Integer> CONSTANTS =
+            Map.of("NONE", -1000000, "BAD", -1000001, "STATE", -1000002, "FULL", -1000003);
     private static final String[] RULED_OUT = {
         "throw", "try", "catch", "synchronized", "assert", "import", "package", "Object", "new Random", "Math\\.random",
         "System\\.(?!arraycopy)", "->", "::", "toString", "hashCode", "protected", "Exact\\(", "\"",
     };
 
-    public static void main(String[] args) throws IOException {
+    public static void main(String[] args) throws IOException, ReflectiveOperationException {
+        theClass();
         methods();
         fields();
         classesInside();
         words();
         Check.end("FaceTest");
+    }
+
+    private static void theClass() {
+        Check.due("face: public and final", AntBand.class.getModifiers(), Modifier.PUBLIC | Modifier.FINAL);
+        Check.due("face: no package", AntBand.class.getPackageName().length(), 0);
+        Check.due("face: it extends nothing", AntBand.class.getSuperclass() == Object.class ? 1 : 0, 1);
+        Check.due("face: it implements nothing", AntBand.class.getInterfaces().length, 0);
+        Check.due("face: one constructor", AntBand.class.getDeclaredConstructors().length, 1);
+        for (Constructor<?> one : AntBand.class.getDeclaredConstructors()) {
+            Check.due("face: " + one, one.getModifiers(), Modifier.PUBLIC);
+            Check.due("face: it takes nothing", one.getParameterCount(), 0);
+        }
     }
 
     private static void methods() {
@@ -44,12 +61,12 @@ public final class FaceTest {
                 publicNames.add(one.getName());
                 String args = Arrays.toString(one.getParameterTypes()).replace("[", "(").replace("]", ")");
                 String told = one.getReturnType() + " " + one.getName() + args;
-                Check.due("face: " + told, due.remove(told) && !Modifier.isStatic(one.getModifiers()) ? 1 : 0, 1);
+                Check.due("face: " + told, due.remove(told) ? 1 : 0, 1);
+                Check.due("face: public alone, " + told, one.getModifiers(), Modifier.PUBLIC);
+                Check.due("face: throws nothing, " + told, one.getExceptionTypes().length, 0);
             }
         }
         Check.due("face: missing " + due, due.size(), 0);
-        Check.due("face: one constructor", AntBand.class.getConstructors().length, 1);
-        Check.due("face: public and final", AntBand.class.getModifiers(), Modifier.PUBLIC | Modifier.FINAL);
         for (Method one : AntBand.class.getDeclaredMethods()) {
             if (!Modifier.isPublic(one.getModifiers())) {
                 Check.due("1: private " + one, Modifier.isPrivate(one.getModifiers()) ? 1 : 0, 1);
@@ -64,14 +81,20 @@ public final class FaceTest {
         }
     }
 
-    private static void fields() {
-        Set<String> constants = new HashSet<>(Arrays.asList("NONE", "BAD", "STATE", "FULL"));
+    private static void fields() throws ReflectiveOperationException {
+        int constants = 0;
         for (Field one : AntBand.class.getDeclaredFields()) {
-            boolean isPublic = Modifier.isPublic(one.getModifiers());
-            Check.due("face: " + one, isPublic == constants.contains(one.getName()) ? 1 : 0, 1);
-            Check.due("1: private " + one, isPublic || Modifier.isPrivate(one.getModifiers()) ? 1 : 0, 1);
+            if (Modifier.isPublic(one.getModifiers())) {
+                constants++;
+                Check.due("face: constant " + one, one.getModifiers(), Modifier.PUBLIC | Modifier.STATIC | Modifier.FINAL);
+                Check.due("face: an int, " + one, one.getType() == int.class ? 1 : 0, 1);
+                Check.due("face: value of " + one, one.getInt(null), CONSTANTS.getOrDefault(one.getName(), 0));
+            } else {
+                Check.due("1: private " + one, Modifier.isPrivate(one.getModifiers()) ? 1 : 0, 1);
+            }
             staticIsFinal(one);
         }
+        Check.due("face: as many constants as told", constants, CONSTANTS.size());
     }
 
     private static void staticIsFinal(Field one) {
@@ -81,7 +104,7 @@ public final class FaceTest {
 
     private static void classesInside() {
         Class<?>[] inside = AntBand.class.getDeclaredClasses();
-        Check.due("11: classes", inside.length <= 12 ? 1 : 0, 1);
+        Check.due("11: classes", inside.length + 1 <= 12 ? 1 : 0, 1);
         for (Class<?> one : inside) {
             Check.due("2: static " + one, Modifier.isStatic(one.getModifiers()) ? 1 : 0, 1);
             Check.due("1: not public " + one, one.getModifiers() & (Modifier.PUBLIC | Modifier.PROTECTED), 0);

@@ -88,6 +88,10 @@ final class Model {
     static final String SORTS = "?ptqbu";
     final Moment now;
 
+    Model(Moment now) {
+        this.now = now;
+    }
+
     Model(AntBand x) {
         int[] pulls = new int[x.count(1)];
         for (int k = 0; k < pulls.length; k++) {
