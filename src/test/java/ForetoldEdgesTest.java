@@ -208,6 +208,25 @@ public final class ForetoldEdgesTest {
         AntBand never = Check.told("w47;g9;g0;g93;t6,48,3;");
         orderIs("not at all is latest, of two the first", never, 1, Check.NONE, 2, 0, 1);
         orderIs("soonest", never, 0, 36, 1, 0, 2);
+        ordersJustAt200();
+    }
+
+    /** One order is there behind just 200, the other not at all, which is later yet. */
+    private static void ordersJustAt200() {
+        String[] firstIsThere = {"w99;g28;g38;t8,13,7;", "w33;g6;g9;p1,47,8;"};
+        String[] firstIsNot = {"w99;g38;g28;t8,13,7;", "w33;g9;g6;p1,47,8;"};
+        for (int i = 0; i < 2; i++) {
+            orderIs("soonest behind just 200", Check.told(firstIsThere[i]), 0, 200, 0, 1);
+            orderIs("not at all is later than 200", Check.told(firstIsThere[i]), 1, Check.NONE, 1, 0);
+            orderIs("just 200 is sooner than not at all", Check.told(firstIsNot[i]), 0, 200, 1, 0);
+            orderIs("not at all is later than 200", Check.told(firstIsNot[i]), 1, Check.NONE, 0, 1);
+        }
+        // one order would be there behind 201, the other later: by both not at all, so the first
+        for (String text : new String[] {"w79;g31;g18;p4,29,2;", "w79;g18;g31;p4,29,2;", "w58;g56;g14;t9,15,3;"}) {
+            for (int late = 0; late < 2; late++) {
+                orderIs("behind 201 is not at all", Check.told(text), late, Check.NONE, 0, 1);
+            }
+        }
     }
 
     /** Of 120 orders the very last is the only one that is best. */

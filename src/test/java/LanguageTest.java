@@ -198,6 +198,9 @@ public final class LanguageTest extends TreePathScanner<Void, Void> {
         rule(4, above || own || LIBRARY.matcher(name).matches(), "the library: " + name, one);
         rule(12, above || !isConstructor(method()), "a constructor calls no method: " + name, one);
         if (own) {
+            boolean again = method() != null && methods.get(is) == method();
+            boolean counted = one.getArguments().stream().anyMatch(arg -> arg.toString().equals("depth + 1"));
+            rule(8, !again || counted, "the depth is carried: " + one, one);
             note(is);
         }
         return super.visitMethodInvocation(one, nothing);
